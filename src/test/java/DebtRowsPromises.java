@@ -153,6 +153,11 @@ public final class DebtRowsPromises {
         fails("row 21, up above down", ARGUMENT, () -> x.rate(100000, 2, 1));
         fails("row 21, down 0", ARITHMETIC, () -> x.rate(100000, 0, 0));
         is("rows at last", 20, x.sum(7));
+
+        DebtRows one = new DebtRows();
+        one.rate(8, 1, 1);
+        fails("ahead of the only one", ARGUMENT, () -> one.rate(7, 1, 1));
+        is("from the day of the only one", 2, one.rate(8, 1, 1));
     }
 
     private static void births() {
