@@ -89,10 +89,7 @@ public final class DebtRows {
     }
 
     public int notified(int debt) throws IllegalArgumentException {
-        Debt found = find(debt);
-        if (found == null) {
-            throw new IllegalArgumentException("no such debt");
-        }
+        Debt found = findOrRefuse(debt);
         if (found.state != BORN || found.isTooLate(today)) {
             return 0;
         }
@@ -123,10 +120,7 @@ public final class DebtRows {
     }
 
     public int instalments(int debt, int n) throws IllegalArgumentException {
-        Debt found = find(debt);
-        if (found == null) {
-            throw new IllegalArgumentException("no such debt");
-        }
+        Debt found = findOrRefuse(debt);
         if (n < LEAST_INSTALMENTS || n > MOST_INSTALMENTS) {
             throw new IllegalArgumentException("no such number of instalments");
         }
@@ -139,10 +133,7 @@ public final class DebtRows {
     }
 
     public int appeal(int debt) throws IllegalArgumentException {
-        Debt found = find(debt);
-        if (found == null) {
-            throw new IllegalArgumentException("no such debt");
-        }
+        Debt found = findOrRefuse(debt);
         if (!found.isPayable()) {
             return 0;
         }
@@ -152,10 +143,7 @@ public final class DebtRows {
     }
 
     public long decide(int debt, boolean forDebtor) throws IllegalArgumentException {
-        Debt found = find(debt);
-        if (found == null) {
-            throw new IllegalArgumentException("no such debt");
-        }
+        Debt found = findOrRefuse(debt);
         if (found.state != SUSPENDED) {
             return NONE;
         }
@@ -183,10 +171,7 @@ public final class DebtRows {
     }
 
     public long due(int debt, int side) throws IllegalArgumentException {
-        Debt found = find(debt);
-        if (found == null) {
-            throw new IllegalArgumentException("no such debt");
-        }
+        Debt found = findOrRefuse(debt);
         switch (side) {
             case 0:
                 return found.open;
@@ -204,10 +189,7 @@ public final class DebtRows {
     }
 
     public long recourse(int debt, int who, int side) throws IllegalArgumentException {
-        Debt found = find(debt);
-        if (found == null) {
-            throw new IllegalArgumentException("no such debt");
-        }
+        Debt found = findOrRefuse(debt);
         int place = found.placeOf(who);
         if (place == NONE) {
             throw new IllegalArgumentException("no debtor of this debt");
@@ -285,6 +267,14 @@ public final class DebtRows {
             return null;
         }
         return debts[number - 1];
+    }
+
+    private Debt findOrRefuse(int number) {
+        Debt found = find(number);
+        if (found == null) {
+            throw new IllegalArgumentException("no such debt");
+        }
+        return found;
     }
 
     private static boolean isPerson(int who) {
