@@ -1446,7 +1446,8 @@ public final class DebtRowsEdges {
         sums();
         shares();
         orderOfExceptions();
-        System.out.println(tests + " tests, " + (wrong == 0 ? "all answers are as due" : wrong + " answers are not as due"));
+        System.out.println(tests + " tests, "
+                + (wrong == 0 ? "all answers are as due" : wrong + " answers are not as due"));
         if (wrong != 0) {
             System.exit(1);
         }
