@@ -337,6 +337,11 @@ public final class DebtRowsDayByDay {
         return values[dice.nextInt(values.length)];
     }
 
+    /** Now and then a number that no call can do anything with. */
+    private static int orFarOff(Random dice, int usual) {
+        return dice.nextInt(80) == 0 ? oneOf(dice, Integer.MIN_VALUE, -7, 100001, Integer.MAX_VALUE) : usual;
+    }
+
     private static int aDay(Random dice, Model m) {
         int kind = dice.nextInt(40);
         if (kind == 0) {
@@ -346,6 +351,10 @@ public final class DebtRowsDayByDay {
             return m.today + oneOf(dice, 1094, 1095, 1096, 365);
         }
         return kind < 30 ? m.today + dice.nextInt(20) : m.today + oneOf(dice, 0, 29, 30, 31, 60, 61);
+    }
+
+    private static int aDebt(Random dice, Model m) {
+        return orFarOff(dice, 1 + dice.nextInt(m.debts.size() + 1) - (dice.nextInt(50) == 0 ? 1 : 0));
     }
 
     private static long aSum(Random dice, Model m, int debt) {
@@ -364,11 +373,11 @@ public final class DebtRowsDayByDay {
     }
 
     private static void change(int run, Random dice, Model m, DebtRows x) {
-        int debt = 1 + dice.nextInt(m.debts.size() + 1) - (dice.nextInt(50) == 0 ? 1 : 0);
-        int who = dice.nextInt(40) == 0 ? oneOf(dice, -1, 16) : oneOf(dice, 0, 1, 2, 3, 5, 15);
-        int n = dice.nextInt(30) == 0 ? oneOf(dice, 1, 13) : 2 + dice.nextInt(11);
+        int debt = aDebt(dice, m);
+        int who = orFarOff(dice, dice.nextInt(40) == 0 ? oneOf(dice, -1, 16) : oneOf(dice, 0, 1, 2, 3, 5, 15));
+        int n = orFarOff(dice, dice.nextInt(30) == 0 ? oneOf(dice, 1, 13) : 2 + dice.nextInt(11));
         boolean forDebtor = dice.nextInt(3) == 0;
-        int day = aDay(dice, m);
+        int day = orFarOff(dice, aDay(dice, m));
         long cents = aSum(dice, m, debt);
         switch (dice.nextInt(14)) {
             case 0:
@@ -411,14 +420,14 @@ public final class DebtRowsDayByDay {
     }
 
     private static void question(int run, Random dice, Model m, DebtRows x) {
-        int debt = 1 + dice.nextInt(m.debts.size() + 1) - (dice.nextInt(50) == 0 ? 1 : 0);
+        int debt = aDebt(dice, m);
         ModelDebt d = m.at(debt);
         int who = d == null || dice.nextInt(10) == 0 ? dice.nextInt(18) - 1
                 : d.debtors.get(dice.nextInt(d.debtors.size()));
-        int side = dice.nextInt(10) == 0 ? oneOf(dice, -1, 3, 5) : dice.nextInt(5);
+        int side = orFarOff(dice, dice.nextInt(10) == 0 ? oneOf(dice, -1, 3, 5) : dice.nextInt(5));
         int third = dice.nextInt(10) == 0 ? side : dice.nextInt(3);
-        int what = dice.nextInt(3) == 0 ? dice.nextInt(10) - 1 : 0;
-        int total = dice.nextInt(2) == 0 ? dice.nextInt(39) - 1 : dice.nextInt(8);
+        int what = orFarOff(dice, dice.nextInt(3) == 0 ? dice.nextInt(10) - 1 : 0);
+        int total = orFarOff(dice, dice.nextInt(2) == 0 ? dice.nextInt(39) - 1 : dice.nextInt(8));
         switch (dice.nextInt(8)) {
             case 0:
                 same(run, "sum(" + total + ")", () -> m.sum(total), () -> x.sum(total));

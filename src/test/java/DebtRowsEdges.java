@@ -814,6 +814,33 @@ public final class DebtRowsEdges {
             is("the first", 20, x.due(1, OPEN));
             is("the second", 100, x.due(2, OPEN));
         });
+        test("by number, first INTEREST, then what is OPEN: of each debt ahead of the next one's interest", () -> {
+            for (int more = -20; more <= 3; more++) {
+                DebtRows x = new DebtRows();
+                x.rate(1, 1, 1);
+                x.debt(365, 0);
+                x.debt(730, 0);
+                x.notified(1);
+                x.notified(2);
+                x.tick(13);
+                is("pay of " + (3 + 365 + more), more > 0 ? 2 : 1, x.pay(0, 3 + 365 + more));
+                is("interest of the first", 3, x.due(1, INTEREST_PAID));
+                is("open of the first", more < -10 ? -more : 0, x.due(1, OPEN));
+                is("interest paid of the second", Math.max(0, more), x.due(2, INTEREST_PAID));
+                is("interest left of the second", 6 - Math.max(0, more), x.due(2, INTEREST));
+                is("open of the second", 730, x.due(2, OPEN));
+            }
+        });
+        test("somebody pays so many cents TODAY: interest of this very day is paid, that of the next is not", () -> {
+            DebtRows x = dear(36500);
+            x.tick(11);
+            x.pay(0, 500);
+            is("interest of the day", 100, x.due(1, INTEREST_PAID));
+            is("nothing more of it", 0, x.due(1, INTEREST));
+            is("open", 36100, x.due(1, OPEN));
+            x.tick(12);
+            is("the next day, of what is open", 36100 / 365, x.due(1, INTEREST));
+        });
         test("as far as it goes: how many debts it touched", () -> {
             for (int cents = 99; cents <= 101; cents++) {
                 DebtRows x = two();
@@ -1346,6 +1373,15 @@ public final class DebtRowsEdges {
         test("SHARES: of the CENTS, not of what is OPEN, and in each state", () -> {
             for (int now = BORN; now <= WRITTEN_OFF; now++) {
                 is("state " + now, 1000, inState(now).recourse(1, 0, 1));
+            }
+        });
+        test("SHARES: of as many debtors as there are by then", () -> {
+            DebtRows x = new DebtRows();
+            x.debt(10, 7);
+            long[] firsts = {10, 5, 4, 3};
+            for (int debtors = 1; debtors <= 4; debtors++) {
+                is("the first of " + debtors, firsts[debtors - 1], x.recourse(1, 7, 1));
+                x.debtor(1, debtors);
             }
         });
         test("what they paid of what was OPEN, less their share, if that is above 0", () -> {

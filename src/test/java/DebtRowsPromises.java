@@ -72,29 +72,50 @@ public final class DebtRowsPromises {
         return x;
     }
 
+    /** What reflection tells of a member, in the words of the document. */
+    private static String inShort(Object member) {
+        return member.toString().replace("java.lang.", "").replace("DebtRows.", "");
+    }
+
     private static void theFace() {
         promise = "the face";
         is("NONE", -1, DebtRows.NONE);
-        is("public", true, Modifier.isPublic(DebtRows.class.getModifiers()));
-        is("final", true, Modifier.isFinal(DebtRows.class.getModifiers()));
+        Class<?> itself = DebtRows.class;
+        is("public and final", Modifier.PUBLIC | Modifier.FINAL, itself.getModifiers());
+        is("without a package", 0, itself.getPackageName().length());
+        is("no class above it but Object", true, itself.getSuperclass() == Object.class);
+        is("no interfaces", 0, itself.getInterfaces().length);
         Set<String> seen = new TreeSet<>();
-        for (Method m : DebtRows.class.getDeclaredMethods()) {
+        for (Method m : itself.getDeclaredMethods()) {
             if (!Modifier.isPrivate(m.getModifiers())) {
-                seen.add(m.getReturnType() + " " + m.getName() + Arrays.toString(m.getParameterTypes()));
+                seen.add(inShort(m));
             }
         }
-        for (Field f : DebtRows.class.getDeclaredFields()) {
+        for (Field f : itself.getDeclaredFields()) {
             if (!Modifier.isPrivate(f.getModifiers())) {
-                seen.add(f.getType() + " " + f.getName());
+                seen.add(inShort(f));
             }
         }
-        for (Constructor<?> c : DebtRows.class.getDeclaredConstructors()) {
-            seen.add("new" + Arrays.toString(c.getParameterTypes()));
+        for (Constructor<?> c : itself.getDeclaredConstructors()) {
+            seen.add(inShort(c));
         }
-        Set<String> face = new TreeSet<>(Arrays.asList("int NONE", "new[]", "int rate[int, int, int]",
-                "int debt[long, int]", "boolean debtor[int, int]", "int notified[int]", "int pay[int, long]",
-                "int instalments[int, int]", "int appeal[int]", "long decide[int, boolean]", "int tick[int]",
-                "long due[int, int]", "long recourse[int, int, int]", "int look[int, int]", "long sum[int]"));
+        Set<String> face = new TreeSet<>(Arrays.asList(
+                "public static final int NONE",
+                "public DebtRows()",
+                "public int rate(int,int,int)"
+                        + " throws ArithmeticException,IllegalArgumentException,IllegalStateException",
+                "public int debt(long,int) throws IllegalArgumentException,IllegalStateException",
+                "public boolean debtor(int,int)",
+                "public int notified(int) throws IllegalArgumentException",
+                "public int pay(int,long) throws IllegalArgumentException",
+                "public int instalments(int,int) throws IllegalArgumentException",
+                "public int appeal(int) throws IllegalArgumentException",
+                "public long decide(int,boolean) throws IllegalArgumentException",
+                "public int tick(int) throws IllegalArgumentException",
+                "public long due(int,int) throws IllegalArgumentException",
+                "public long recourse(int,int,int) throws IllegalArgumentException",
+                "public int look(int,int) throws IndexOutOfBoundsException",
+                "public long sum(int)"));
         if (!seen.equals(face)) {
             wrong++;
             System.out.println("the face is " + seen + ", due is " + face);
